@@ -160,7 +160,7 @@ public final class BearingTest {
     }
 
     private static void alikeNeedsTheSameShape() {
-        int[][] shapes = {{8, 100, 10, 101}, {8, 100, 10, 9900 + 99 + 1}, {8, 100, 11, 101}, {8, 101, 10, 101},
+        int[][] shapes = {{8, 100, 10, 101}, {8, 100, 10, 10000}, {8, 100, 11, 101}, {8, 101, 10, 101},
             {10, 100, 10, 101}, {8, 100, 20, 102}};
         int[] due = {1, 0, 0, 0, 0, 1};
         for (int i = 0; i < shapes.length; i++) {
@@ -191,6 +191,10 @@ public final class BearingTest {
         z.out(1, 12);
         z.put(1, 12, z.piece(3, 0, 0, 151));
         c.agreed(z, "27: the last GAP alone is off", z.alike(0, 1, 0), 0);
+        z.out(1, 12);
+        z.put(1, 12, z.piece(3, 0, 0, 149));
+        c.agreed(z, "27: the first GAP alone is off", z.alike(0, 1, 0), 0);
+        c.agreed(z, "27: the first GAP alone is off by 1", z.alike(0, 1, 1), 1);
         WheelYard tyred = twoWith(150, 149, false);
         tyred.out(1, 17);
         tyred.tyre(1, tyred.piece(4, 0, 0, 606), 99);

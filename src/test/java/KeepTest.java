@@ -109,6 +109,15 @@ public final class KeepTest {
         for (int what = 0; what < due.length; what++) {
             c.due("32: about(18, " + what + ")", x.about(18, what), due[what]);
         }
+        WheelYard worn = Yards.withFramedWheel();
+        worn.keep();
+        worn.tyre(0, worn.piece(4, 0, 0, 610), 50);
+        worn.turn(0, 3);
+        c.due("32: WEAR of the TYRE", worn.about(17, 5), 12);
+        worn.undo();
+        c.agreed(worn, "32: piece 17 anew", worn.piece(4, 0, 0, 610), 17);
+        c.due("32: it has no WEAR", worn.about(17, 5), 0);
+        c.due("32: it is FREE", worn.about(17, 6), NONE);
         WheelYard full = new WheelYard();
         full.keep();
         Yards.pieces(full, 200, 4, 0, 1);

@@ -7,6 +7,7 @@ public final class PlanTest {
         planOfAll();
         planTakesLeastNumbers();
         planTakesLeastArcs();
+        planOfFelloesAlone();
         planNeedsWhatFits();
         planNeedsFreePieces();
         planYears();
@@ -85,6 +86,20 @@ public final class PlanTest {
         }
     }
 
+    private static void planOfFelloesAlone() {
+        WheelYard x = Yards.withFramedWheel();
+        x.out(0, 9);
+        x.out(0, 12);
+        x.piece(3, 0, 0, 149);
+        x.piece(3, 0, 0, 151);
+        x.piece(3, 0, 0, 148);
+        c.agreed(x, "28: plan(0)", x.plan(0), 0);
+        c.due("29: planned(9)", x.planned(9), 19);
+        c.due("29: planned(12)", x.planned(12), 17);
+        c.agreed(x, "30: fill(0)", x.fill(0), 2);
+        c.due("30: at(0, 12)", x.at(0, 12), 17);
+    }
+
     private static void planNeedsWhatFits() {
         int[] lacking = {0, 1, 9, 13};
         int[] misfits = {9, 101, 179, 0};
@@ -120,25 +135,20 @@ public final class PlanTest {
     }
 
     private static void planYears() {
-        WheelYard x = withAllPieces();
-        x.dampRow(1, 10, 21);
-        x.damp(1, 5, 20);
-        x.out(0, 0);
-        x.years(3);
+        WheelYard dry = withAllPieces();
         for (int sort = 0; sort <= 3; sort++) {
-            WheelYard y = Yards.withBareWheel();
-            y.dampRow(1, 10, 21);
-            y.damp(1, 5, 20);
-            y.years(3);
-            for (int place = 0; place < Yards.RIM; place++) {
-                int model = Yards.pieceFor(x, place);
-                boolean late = x.about(model, 0) == sort;
-                y.piece(x.about(model, 0), late ? 1 : 0, 0, x.about(model, 4));
+            WheelYard x = Yards.withBareWheel();
+            x.dampRow(1, 10, 21);
+            x.damp(1, 5, 20);
+            x.years(3);
+            for (int p = 0; p < Yards.RIM; p++) {
+                int wood = dry.about(p, 0) == sort ? 1 : 0;
+                x.piece(dry.about(p, 0), wood, 0, dry.about(p, 4));
             }
-            c.agreed(y, "28: SORT " + sort + " is DRY in 5 years", y.plan(0), 8);
-            y.years(5);
-            c.agreed(y, "28: 5 years later", y.plan(0), 8);
-            c.agreed(y, "30: 5 years later", y.fill(0), 17);
+            c.agreed(x, "28: SORT " + sort + " is DRY in 5 years", x.plan(0), 8);
+            x.years(5);
+            c.agreed(x, "28: 5 years later", x.plan(0), 8);
+            c.agreed(x, "30: 5 years later", x.fill(0), 17);
         }
     }
 

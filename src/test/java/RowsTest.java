@@ -7,6 +7,7 @@ public final class RowsTest {
         newObject();
         why();
         whyStaysAsItWas();
+        whyIsZeroAfterEachCall();
         dampRow();
         damp();
         dampAt();
@@ -71,6 +72,58 @@ public final class RowsTest {
         c.due("2: why() after calls without REASONS", x.why(), 0);
         c.refused(x, "2: missing(0)", x.missing(0), 1);
         c.refused(x, "2: piece(9, 0, 0, 1)", x.piece(9, 0, 0, 1), 17);
+    }
+
+    /** Each call that tells REASONS and is not refused leaves 0, whatever was refused ahead of it. */
+    private static void whyIsZeroAfterEachCall() {
+        WheelYard x = Yards.withTyre();
+        x.wheel(8, 100, 10, 101);
+        for (int what = 0; what <= 8; what++) {
+            x.told(9, 0);
+            c.agreed(x, "2: about(0, " + what + ")", x.about(0, what), x.about(0, what));
+            x.told(9, 0);
+            c.agreed(x, "2: told(0, " + what + ")", x.told(0, what), x.told(0, what));
+        }
+        int[] due = {1, 1, 1, 1, 1, 5, 0, 18, 19, 2, 1, 1, 17, 28, 7, 1, NONE, 220000, 220000, 0, 1, 1, 0, 0};
+        for (int call = 0; call < due.length; call++) {
+            x.told(9, 0);
+            c.due("2: the REASON ahead of call " + call, x.why(), 1);
+            c.agreed(x, "2: call " + call, call < 10 ? oneCall(x, call) : laterCall(x, call), due[call]);
+        }
+    }
+
+    private static int oneCall(WheelYard x, int call) {
+        switch (call) {
+            case 0: return x.dampRow(0, 60, 10) ? 1 : 0;
+            case 1: return x.damp(0, 5, 10) ? 1 : 0;
+            case 2: return x.strength(0, 100) ? 1 : 0;
+            case 3: return x.heatRow(100, 100) ? 1 : 0;
+            case 4: return x.turn(0, 0) ? 1 : 0;
+            case 5: return x.heated(5, 0);
+            case 6: return x.years(0);
+            case 7: return x.piece(0, 0, 0, 8);
+            case 8: return x.piece(4, 0, 0, 610);
+            default: return x.wheel(8, 100, 10, 101);
+        }
+    }
+
+    private static int laterCall(WheelYard x, int call) {
+        switch (call) {
+            case 10: return x.put(1, 0, 18) ? 1 : 0;
+            case 11: return x.at(0, 1);
+            case 12: return x.out(0, 17);
+            case 13: return x.space(0);
+            case 14: return x.gap(0, 0);
+            case 15: return x.tyre(0, 17, 50) ? 1 : 0;
+            case 16: return x.missing(0);
+            case 17: return x.bears(1);
+            case 18: return x.carries(0);
+            case 19: return x.weakest(0);
+            case 20: return x.turn(0, 1) ? 1 : 0;
+            case 21: return x.alike(0, 0, 0);
+            case 22: return x.plan(0);
+            default: return x.fill(0);
+        }
     }
 
     private static void dampRow() {
@@ -185,6 +238,9 @@ public final class RowsTest {
         c.agreed(x, "8: heated(112, 9)", x.heated(112, 9), 113);
         c.agreed(x, "8: heated(30000, 9)", x.heated(30000, 9), 30270);
         c.agreed(x, "8: heated(30000, 0)", x.heated(30000, 0), 30000);
+        x.heatRow(10, 1);
+        c.agreed(x, "8: heated(11111, 9) grows by less than 1", x.heated(11111, 9), 11111);
+        c.agreed(x, "8: heated(11112, 9) grows by 1", x.heated(11112, 9), 11113);
     }
 
     private static void years() {
