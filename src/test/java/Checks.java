@@ -37,6 +37,12 @@ final class Checks {
         due("why() after " + call, x.why(), 0);
     }
 
+    /** Numbers that are not from least to most: the nearest ones, and the farthest. */
+    static int[] outside(int least, int most) {
+        return new int[] {least - 1, most + 1, Integer.MIN_VALUE, Integer.MIN_VALUE + 1, Integer.MAX_VALUE - 1,
+            Integer.MAX_VALUE};
+    }
+
     void end() {
         System.out.println("  " + asked + " answers looked at, " + wrong + " not as due");
         if (wrong != 0) {

@@ -1,14 +1,11 @@
 /** Runs of 512 calls, drawn by a fixed rule, on WheelYard and on Model: each answer of both must be the same. */
 public final class ModelTest {
-    private static final String[] NAMES = {"why", "dampRow", "damp", "dampAt", "strength", "heatRow", "heated", "years",
-        "measure", "piece", "about", "wheel", "told", "at", "put", "out", "space", "gap", "tyre", "off", "missing",
-        "bears", "carries", "weakest", "turn", "alike", "plan", "planned", "fill", "keep", "undo", "count"};
     private static final int[] ODD = {-1, -2, 0, 1, 41, 200, Integer.MAX_VALUE, Integer.MIN_VALUE, 100000, -101, 30001};
     private static final int RUNS = 3000;
-    private static final int CALLS = 512;
+    private static final int CALLS = Calls.MOST;
 
     private static final Checks c = new Checks();
-    private static final int[] agreed = new int[NAMES.length];
+    private static final int[] agreed = new int[Calls.NAMES.length];
     private static final int[] reasons = new int[18];
     private static long drawn;
 
@@ -25,8 +22,8 @@ public final class ModelTest {
             calls = 0;
             oneRun(run % 3);
         }
-        for (int call = 0; call < NAMES.length; call++) {
-            c.yes("some " + NAMES[call] + "() was not refused", agreed[call] > RUNS / 10);
+        for (int call = 0; call < Calls.NAMES.length; call++) {
+            c.yes("some " + Calls.NAMES[call] + "() was not refused", agreed[call] > RUNS / 10);
         }
         for (int reason = 0; reason <= 17; reason++) {
             c.yes("REASON " + reason + " was told", reasons[reason] > RUNS / 50);
@@ -122,7 +119,7 @@ public final class ModelTest {
     }
 
     private static void anyCall() {
-        int call = draw(NAMES.length);
+        int call = draw(Calls.NAMES.length);
         int a = wheelOrOdd();
         int piece = draw(12) == 0 ? odd() : draw(Math.max(1, model.ask(31, 1, 0, 0, 0)));
         int place = draw(12) == 0 ? odd() : draw(42);
@@ -172,57 +169,14 @@ public final class ModelTest {
         }
         calls += 2;
         int want = model.ask(call, a, b, e, d);
-        int got = real(call, a, b, e, d);
-        String words = "run " + run + ", call " + calls + ": " + NAMES[call] + "(" + a + ", " + b + ", " + e + ", " + d + ")";
+        int got = Calls.ask(yard, call, a, b, e, d);
+        String words = "run " + run + ", call " + calls + ": " + Calls.inWords(call, a, b, e, d);
         c.due(words, got, want);
         int why = model.ask(0, 0, 0, 0, 0);
         c.due("why() after " + words, yard.why(), why);
         reasons[Math.max(0, Math.min(17, why))]++;
         agreed[call] += got >= (Model.tellsYesOrNo(call) ? 1 : 0) ? 1 : 0;
         return got;
-    }
-
-    private static int real(int call, int a, int b, int e, int d) {
-        switch (call) {
-            case 0: return yard.why();
-            case 1: return yard.dampRow(a, b, e) ? 1 : 0;
-            case 2: return yard.damp(a, b, e) ? 1 : 0;
-            case 3: return yard.dampAt(a, b);
-            case 4: return yard.strength(a, b) ? 1 : 0;
-            case 5: return yard.heatRow(a, b) ? 1 : 0;
-            case 6: return yard.heated(a, b);
-            case 7: return yard.years(a);
-            case 8: return yard.measure(a, b);
-            case 9: return yard.piece(a, b, e, d);
-            case 10: return yard.about(a, b);
-            case 11: return yard.wheel(a, b, e, d);
-            case 12: return yard.told(a, b);
-            case 13: return yard.at(a, b);
-            case 14: return yard.put(a, b, e) ? 1 : 0;
-            case 15: return yard.out(a, b);
-            default: return realRest(call, a, b, e);
-        }
-    }
-
-    private static int realRest(int call, int a, int b, int e) {
-        switch (call) {
-            case 16: return yard.space(a);
-            case 17: return yard.gap(a, b);
-            case 18: return yard.tyre(a, b, e) ? 1 : 0;
-            case 19: return yard.off();
-            case 20: return yard.missing(a);
-            case 21: return yard.bears(a);
-            case 22: return yard.carries(a);
-            case 23: return yard.weakest(a);
-            case 24: return yard.turn(a, b) ? 1 : 0;
-            case 25: return yard.alike(a, b, e);
-            case 26: return yard.plan(a);
-            case 27: return yard.planned(a);
-            case 28: return yard.fill(a);
-            case 29: yard.keep(); return 0;
-            case 30: return yard.undo() ? 1 : 0;
-            default: return yard.count(a);
-        }
     }
 
     private static int wheelOrOdd() {

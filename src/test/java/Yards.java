@@ -58,6 +58,39 @@ final class Yards {
         }
     }
 
+    /** STAND is 0, LONG r, and WOOD 0 is DRY in each of its 60 years; WHEEL 0 has no PIECES. */
+    static WheelYard withBare(int n, int r) {
+        WheelYard x = new WheelYard();
+        x.dampRow(0, 60, 10);
+        x.heatRow(200, 100);
+        x.wheel(n, r, 1, 1);
+        return x;
+    }
+
+    /** PIECES come to the places ahead of the rim of a WHEEL that has none there; SPACE is as told. */
+    static void frame(WheelYard x, int w, int space) {
+        int n = x.told(w, 0);
+        int m = n / 2;
+        int arc = (x.told(w, 4) - space) / m;
+        x.put(w, 0, x.piece(NAVE, 0, 0, n));
+        for (int i = 1; i <= n; i++) {
+            x.put(w, i, x.piece(SPOKE, 0, 0, x.told(w, 3)));
+        }
+        for (int i = 1; i < m; i++) {
+            x.put(w, n + i, x.piece(FELLOE, 0, 0, arc));
+        }
+        x.put(w, n + m, x.piece(FELLOE, 0, 0, x.told(w, 4) - space - arc * (m - 1)));
+        for (int i = 1; i <= m; i++) {
+            x.put(w, n + m + i, x.piece(DOWEL, 0, 0, 1));
+        }
+    }
+
+    static void strakes(WheelYard x, int w) {
+        for (int place = 2 * x.told(w, 0) + 1; place < x.told(w, 8); place++) {
+            x.put(w, place, x.piece(STRAKE, 0, 0, 1));
+        }
+    }
+
     private Yards() {
     }
 }
