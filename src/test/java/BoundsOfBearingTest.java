@@ -27,6 +27,7 @@ public final class BoundsOfBearingTest {
         turnWearsEachSort();
         turnWearsNothingElse();
         turnFarFromTheMostWear();
+        turnUpToTheMostWear();
         alikeWhichWheels();
         alikeBelowNought();
         alikeTellsTheFirstReason();
@@ -356,6 +357,45 @@ public final class BoundsOfBearingTest {
         }
         c.due("26: WEAR of the TYRE", x.about(17, 5), 176000000);
         c.due("26: WEAR of a FELLOE", x.about(12, 5), 132000000);
+    }
+
+    /**
+     * 26: "a WEAR would be above 2000000000". No 512 calls come so far, and what later calls answer is free: this
+     * looks at what this program answers then, PIECES of each SORT coming to the bound, the most worn ones first.
+     */
+    private static void turnUpToTheMostWear() {
+        int[] each = {4, 3, 2, 1, 1};
+        int[] from = {17, 9, 1, 0, 13};
+        int[] to = {17, 12, 8, 0, 16};
+        for (int sort = 0; sort < each.length; sort++) {
+            WheelYard x = Yards.withTyre();
+            for (int wear = 0; wear < 2000000000 / each[sort] / 100000; wear++) {
+                x.turn(0, 100000);
+                if (wear % 4999 == 4998) {
+                    anewButFor(x, from[sort], to[sort]);
+                }
+            }
+            int left = 2000000000 / each[sort] % 100000;
+            c.refused(x, "26: one too many, each " + each[sort], x.turn(0, left + 1), 17);
+            c.refused(x, "26: as many as may be, each " + each[sort], x.turn(0, 100000), 17);
+            c.due("26: WEAR is as it was", x.about(x.at(0, from[sort]), 5), 2000000000 - left * each[sort] - 2000000000 % each[sort]);
+            c.agreed(x, "26: just enough, each " + each[sort], x.turn(0, left));
+            c.refused(x, "26: 1 more, each " + each[sort], x.turn(0, 1), 17);
+            c.agreed(x, "26: 0 more, each " + each[sort], x.turn(0, 0));
+            c.due("26: the most WEAR", x.about(x.at(0, to[sort]), 5), 2000000000 - 2000000000 % each[sort]);
+        }
+    }
+
+    /** New PIECES come to all places but those told, so that these alone go on wearing. */
+    private static void anewButFor(WheelYard x, int from, int to) {
+        int tyre = x.at(0, 17);
+        for (int place = 0; place <= 16; place++) {
+            if (place < from || place > to) {
+                x.out(0, place);
+                x.put(0, place, Yards.pieceFor(x, place));
+            }
+        }
+        x.tyre(0, from == 17 ? tyre : x.piece(4, 0, 0, 610), 50);
     }
 
     private static WheelYard twoStraked(int space, int otherSpace) {

@@ -492,6 +492,8 @@ public final class BoundsOfRowsTest {
         c.agreed(x, "8: 19900 / 100000", x.heated(1, 199), 1);
         c.agreed(x, "8: 99500 / 100000", x.heated(5, 199), 5);
         c.agreed(x, "8: 119400 / 100000", x.heated(6, 199), 7);
+        c.agreed(x, "8: 593995100 / 100000, a little below 5940", x.heated(29849, 199), 29849 + 5939);
+        c.agreed(x, "8: 597000000 / 100000, just 5970", x.heated(30000, 199), 30000 + 5970);
     }
 
     /** 9: "n more (0 to 100)". */
